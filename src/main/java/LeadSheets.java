@@ -929,16 +929,15 @@ public final class LeadSheets {
             }
         }
 
+        /**
+         * Of like costs the first one stays: the later ones have a higher lowest key or, above the
+         * same one, no pitch at a lower key and some at higher ones.
+         */
         private void offer(long taken, int cost) {
-            if (best == 0 || cost < bestCost || (cost == bestCost && comesFirst(taken, best))) {
+            if (best == 0 || cost < bestCost) {
                 best = taken;
                 bestCost = cost;
             }
-        }
-
-        /** Of two voicings with as many keys: the one with the lowest key that only one has. */
-        private static boolean comesFirst(long one, long other) {
-            return (Long.lowestOneBit(one ^ other) & one) != 0;
         }
 
         private void take(int low, int high) {

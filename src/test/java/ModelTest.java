@@ -185,6 +185,9 @@ public final class ModelTest {
     private void voice() {
         int chord = someChord();
         int low = below(30) == 0 ? below(400) - 200 : below(128);
+        if (model.count(4) > 0 && below(3) > 0) {
+            low = model.key(0) + below(25) - 12;
+        }
         // Ranges in which the model's search through everything stays short.
         int widest = Integer.bitCount(Math.max(0, model.of(chord, 3))) > 7 ? 24 : 38;
         int high = low + below(widest + 2) - 1;

@@ -23,6 +23,7 @@ public final class PromiseTest {
         move();
         voice();
         voiceNearBefore();
+        voiceLikeCosts();
         keyAndRest();
         figure();
         count();
@@ -363,6 +364,8 @@ public final class PromiseTest {
             due("8: named(145, " + wild + ")", x.named(145, wild), BAD);
         }
         due("8: 4095 with 12", x.named(4095, 12), BAD);
+        due("8: 4097 with 0", x.named(4097, 0), BAD);
+        due("8: a negative set with its bit", x.named(-1, 3), BAD);
         due("8: what was found stays", x.count(1), 2);
         due("8: named(3, 0)", x.named(3, 0), 0);
         due("8: none are found now", x.count(1), 0);
@@ -433,6 +436,8 @@ public final class PromiseTest {
         moved("Cdim7", 3, "D#dim7");
         moved("C69/E", 2, "D?/Gb");
         moved("C69", 11, "B?");
+        // Bbb would be as light as A, but has two signs.
+        moved("A+M7#9#11/E", 0, "A?/E");
         LeadSheets x = with("C/B#");
         x.move(0, 0);
         due("11: the bass behind / stays one", x.of(1, 6), 1);
@@ -494,6 +499,17 @@ public final class PromiseTest {
         due("14: rest()", x.rest(), 3);
         due("12: without one before", x.voice(0, 36, 72), 3);
         due("12: the lowest of like ones", Check.keys(x), "36 40 43");
+    }
+
+    private static void voiceLikeCosts() {
+        LeadSheets x = with("C");
+        Check.chord(x, "C7#11add11");
+        Check.chord(x, "C9#11add11");
+        x.voice(0, 60, 67);
+        due("12: a wide one", x.voice(1, 48, 67), 6);
+        due("12: keys stay high, but for those that can't", Check.keys(x), "48 58 64 65 66 67");
+        due("12: D is as near at 50 as at 62", x.voice(2, 48, 67), 7);
+        due("12: the lower one comes first", Check.keys(x), "48 50 58 64 65 66 67");
     }
 
     private static void keyAndRest() {
