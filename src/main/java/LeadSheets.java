@@ -617,7 +617,6 @@ public final class LeadSheets {
 
         void clear() {
             length = 0;
-            place = 0;
         }
 
         /** The chord of the NAME on the tape; null, if it has a FAULT, which is the place then. */
